@@ -123,7 +123,8 @@ public final class MarbleBench {
         return number;
     }
 
-    public int sew(int book, int move) throws IndexOutOfBoundsException, IllegalArgumentException, IllegalStateException {
+    public int sew(int book, int move)
+            throws IndexOutOfBoundsException, IllegalArgumentException, IllegalStateException {
         Sewing sewing = bookOf(book).sewing;
         demandArgument(isWithin(move, THROUGH, DOWN));
         demandState(sewing.allows(move));
@@ -131,7 +132,8 @@ public final class MarbleBench {
         return sewing.length;
     }
 
-    public int unsew(int book, int many) throws IndexOutOfBoundsException, IllegalArgumentException, IllegalStateException {
+    public int unsew(int book, int many)
+            throws IndexOutOfBoundsException, IllegalArgumentException, IllegalStateException {
         Sewing sewing = bookOf(book).sewing;
         demandArgument(isWithin(many, 1, MOST_MOVES));
         demandState(many <= sewing.moveCount);
@@ -230,7 +232,8 @@ public final class MarbleBench {
 
     // ---- repairs, years
 
-    public int repair(int book, int stuff) throws IndexOutOfBoundsException, IllegalArgumentException, IllegalStateException {
+    public int repair(int book, int stuff)
+            throws IndexOutOfBoundsException, IllegalArgumentException, IllegalStateException {
         Book found = bookOf(book);
         demandArgument(isWithin(stuff, 0, LAST_STUFF));
         demandState(!found.isOld || canBeUndone(stuff));
@@ -336,11 +339,11 @@ public final class MarbleBench {
     // ---- how sheets fold
 
     private static int columnsOf(int folds) {
-        return 1 << (folds + 1) / 2;
+        return 1 << ((folds + 1) / 2);
     }
 
     private static int rowsOf(int folds) {
-        return 1 << folds / 2;
+        return 1 << (folds / 2);
     }
 
     /**
@@ -742,19 +745,16 @@ public final class MarbleBench {
             return first;
         }
 
-        /** A sum changes only where something begins to speak, or has just ended: one of these is the first year too late. */
+        /** The greatest sum can only fall, and it falls only where something has just ended. */
         int lastByEnds(int first) {
-            int late = LAST_YEAR + 1;
+            int greatest = weightIn(first);
+            int last = LAST_YEAR;
             for (int i = 0; i < number && i < MOST_SPEAKERS; i++) {
-                late = soonerChange(first, late, froms[i]);
-                late = soonerChange(first, late, tos[i] + 1);
+                if (isWithin(tos[i], first, last) && weightIn(tos[i] + 1) < greatest) {
+                    last = tos[i];
+                }
             }
-            return late - 1;
-        }
-
-        private int soonerChange(int first, int late, int aYear) {
-            boolean isSooner = aYear > first && aYear < late;
-            return isSooner && weightIn(aYear) != weightIn(first) ? aYear : late;
+            return last;
         }
 
         int firstByYears() {

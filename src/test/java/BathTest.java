@@ -28,6 +28,7 @@ final class BathTest {
         combAllNumbers(checks);
         combRefused(checks);
         liftAndGhost(checks);
+        liftOfAllCells(checks);
         liftRefused(checks);
         cleanBath(checks);
         cellRefused(checks);
@@ -194,6 +195,22 @@ final class BathTest {
         checks.due("not on the third", NONE, bench.printAt(2, 3, 3));
         checks.due("the later drop on the third", 1, bench.printAt(2, 0, 0));
         checks.due("not on the first", NONE, bench.printAt(0, 0, 0));
+    }
+
+    private static void liftOfAllCells(Checks checks) {
+        for (int lifted = 1; lifted <= 2; lifted++) {
+            MarbleBench bench = new MarbleBench();
+            bench.drop(4, 4, 3, 64);
+            for (int i = 0; i < lifted; i++) {
+                bench.lift();
+            }
+            for (int cell = 0; cell < 64; cell++) {
+                String what = "cell " + cell + " after " + lifted + " prints";
+                checks.due("strength of " + what, 2 - lifted, bench.cellAt(cell % 8, cell / 8, 1));
+                checks.due("colour of " + what, lifted == 1 ? 3 : NONE, bench.cellAt(cell % 8, cell / 8, 0));
+                checks.due("print of " + what, 3, bench.printAt(lifted - 1, cell % 8, cell / 8));
+            }
+        }
     }
 
     private static void liftRefused(Checks checks) {

@@ -41,6 +41,7 @@ final class SewingTest {
         sewnBook(checks);
         sewnThree(checks);
         held(checks);
+        gatheringsApart(checks);
         askedRefused(checks);
     }
 
@@ -278,6 +279,16 @@ final class SewingTest {
         checks.due("held at the first gathering", 1, Checks.bit(bench.isHeld(0, 0)));
         checks.due("not at the second", 0, Checks.bit(bench.isHeld(0, 1)));
         checks.due("not at the third", 0, Checks.bit(bench.isHeld(0, 2)));
+    }
+
+    /** With 6 stations, the stitches at a gathering are not those at the next one. */
+    private static void gatheringsApart(Checks checks) {
+        MarbleBench bench = new MarbleBench();
+        bench.book(2, 2, 6, 1, false);
+        sewAll(bench, 0, THROUGH, ALONG, ALONG, BACK, BACK, THROUGH, UP, THROUGH, ALONG, BACK, ALONG, BACK);
+        checks.due("two parts of the lower gathering", 0, Checks.bit(bench.isHeld(0, 0)));
+        checks.due("one part of the upper gathering", 0, Checks.bit(bench.isHeld(0, 1)));
+        checks.due("2 stitches below and 4 above", 3 * (2 + 4), bench.swelling(0));
     }
 
     private static void askedRefused(Checks checks) {
