@@ -1,4 +1,7 @@
-/** Runs all tests of the project; ends with exit code 1 if one failed. */
+import java.io.IOException;
+import java.nio.file.Path;
+
+/** Runs all tests of the project; the argument is the document's file. Ends with exit code 1 if one failed. */
 public final class AllTests {
     private AllTests() {
     }
@@ -13,9 +16,25 @@ public final class AllTests {
         SkinTest.run(checks);
         RepairTest.run(checks);
         YearTest.run(checks);
+        edges(checks, Path.of(args[0]));
         ModelTest.run(checks);
         if (!checks.report()) {
             System.exit(1);
         }
+    }
+
+    /** Every sentence of the document is named by a test, or by a reason for having none. */
+    private static void edges(Checks checks, Path file) throws IOException {
+        Document document = new Document(file);
+        Edges edges = new Edges(checks, document);
+        RuleEdges.run(edges);
+        BathEdges.run(edges);
+        SheetEdges.run(edges);
+        ThreadEdges.run(edges);
+        SpineEdges.run(edges);
+        SkinEdges.run(edges);
+        YearEdges.run(edges);
+        checks.isTrue("that tests name all sentences, those too: " + document.notNamed(), document.notNamed().isEmpty());
+        System.out.println(edges.tests() + " tests that are named by a sentence of the document");
     }
 }

@@ -172,16 +172,13 @@ final class SewingTest {
     private static void takenBack(Checks checks) {
         int[] moves = {THROUGH, ALONG, ALONG, BACK, THROUGH, UP, ALONG, THROUGH, BACK, THROUGH, UP, DOWN, BACK, DOWN};
         for (int many = 1; many <= moves.length; many++) {
-            MarbleBench bench = new MarbleBench();
-            MarbleBench fewer = new MarbleBench();
-            bench.book(3, 4, 4, 2, false);
-            fewer.book(3, 4, 4, 2, false);
-            sewAll(bench, 0, moves);
-            sewAll(fewer, 0, java.util.Arrays.copyOf(moves, moves.length - many));
-            checks.due("length with " + many + " taken back", fewer.ofThread(0, 0), bench.unsew(0, many));
-            for (Views.View view : Views.ALL) {
-                checks.isTrue("all as if " + many + " moves had not been", view.of(bench).equals(view.of(fewer)));
-            }
+            int back = many;
+            int[] first = java.util.Arrays.copyOf(moves, moves.length - many);
+            Checks.Setup fewer = Benches.sewn(3, 4, first);
+            Checks.Setup all = Benches.sewn(3, 4, moves);
+            int length = Checks.made(fewer).ofThread(0, 0);
+            checks.answers("length with " + many + " taken back", length, all, b -> b.unsew(0, back));
+            checks.alike(many + " moves taken back", fewer, Benches.then(all, b -> b.unsew(0, back)));
         }
     }
 
