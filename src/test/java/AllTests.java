@@ -34,7 +34,7 @@ public final class AllTests {
         SpineEdges.run(edges);
         SkinEdges.run(edges);
         YearEdges.run(edges);
-        checks.isTrue("that tests name all sentences, those too: " + document.notNamed(), document.notNamed().isEmpty());
+        checks.isTrue("that no sentence is without a test: " + document.notNamed(), document.notNamed().isEmpty());
         System.out.println(edges.tests() + " tests that are named by a sentence of the document");
     }
 }

@@ -73,7 +73,9 @@ final class BathEdges {
 
     /** Colours of a bath in which no two rows or columns are alike. */
     private static int mixedColour(int cell) {
-        return (3 * (cell % 8) + 5 * (cell / 8) + cell % 8 * (cell / 8)) % 7 - 1;
+        int x = cell % 8;
+        int y = cell / 8;
+        return (3 * x + 5 * y + x * y + x / 7 * 2 + y / 7) % 7 - 1;
     }
 
     private static int mixedStrength(int cell) {
@@ -440,7 +442,7 @@ final class BathEdges {
 
     private static void clean(Edges edges) {
         edges.section("Promise 5");
-        edges.test("Cleans the bath: no COLOUR and the STRENGTH 0 in all cells; returns how many had a COLOUR.", checks -> {
+        edges.test("no COLOUR and the STRENGTH 0 in all cells; returns how many had a COLOUR.", checks -> {
             checks.answers("a clean one", 0, Benches.EMPTY, b -> b.clean());
             checks.answers("one cell", 1, dropped(7, 7, 0, 1), b -> b.clean());
             checks.answers("a full one", 64, dropped(7, 7, 0, 64), b -> b.clean());

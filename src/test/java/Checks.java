@@ -58,9 +58,12 @@ final class Checks {
         verdict(got.equals(String.valueOf(due)), what + " answered " + got + ", due is " + due);
     }
 
-    /** The call throws exactly this exception (none below it), and no view of the bench tells of the call. */
+    /**
+     * The call throws exactly this exception (none below it), by a statement of the class's own,
+     * and no view of the bench tells of the call.
+     */
     void refuses(String what, Class<?> due, Setup setup, Ask call) {
-        String got = answerOf(made(setup), call);
+        String got = refusalOf(made(setup), call);
         verdict(got.equals(due.getName()), what + " answered " + got + ", due is " + due.getName());
         unchanged(what, setup, bench -> answerOf(bench, call));
     }
@@ -99,6 +102,16 @@ final class Checks {
             return String.valueOf(call.of(bench));
         } catch (RuntimeException e) {
             return e.getClass().getName();
+        }
+    }
+
+    private static String refusalOf(MarbleBench bench, Ask call) {
+        try {
+            return String.valueOf(call.of(bench));
+        } catch (RuntimeException e) {
+            StackTraceElement[] trace = e.getStackTrace();
+            boolean isOwn = trace.length > 0 && trace[0].getClassName().startsWith("MarbleBench");
+            return e.getClass().getName() + (isOwn ? "" : ", thrown by the library");
         }
     }
 

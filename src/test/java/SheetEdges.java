@@ -24,7 +24,7 @@ final class SheetEdges {
 
     private static void sheets(Edges edges) {
         edges.section("Terms");
-        edges.test("A sheet lies with its front up, with columns from the left and rows from above, each from 0.", checks -> {
+        edges.test("with columns from the left and rows from above, each from 0", checks -> {
             page(checks, 3, 1, false, 0, 0);
             page(checks, 2, 1, false, 1, 0);
             page(checks, 7, 2, false, 0, 0);

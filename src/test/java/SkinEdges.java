@@ -46,7 +46,7 @@ final class SkinEdges {
 
     private static void skins(Edges edges) {
         edges.section("Terms");
-        edges.test("Skins are numbered from 0, at most 3: a skin has 8 columns and 8 rows of places with one thickness", checks -> {
+        edges.test("Skins are numbered from 0, at most 3: a skin has 8 columns and 8 rows", checks -> {
             checks.answers("the first one", 0, skins(), b -> b.skin(8));
             checks.answers("the second one", 1, skins(8), b -> b.skin(8));
             checks.answers("the third one", 2, skins(8, 8), b -> b.skin(8));
@@ -58,7 +58,7 @@ final class SkinEdges {
                 checks.due("the third one", 19, bench.thickAt(2, place % 8, place / 8));
             }
         });
-        edges.test("To pare it takes a number off all places of columns and rows in a row; no place may come below 3.", checks -> {
+        edges.test("all places of columns and rows in a row; no place may come below 3.", checks -> {
             for (int first = 0; first < 8; first++) {
                 for (int last = first; last < 8; last++) {
                     thinner(checks, first, last, 7 - last, 7 - first);
@@ -161,7 +161,7 @@ final class SkinEdges {
             checks.answers("all alike", 7, skins(8), b -> b.pare(0, 0, 7, 0, 7, 1));
             checks.answers("the greatest", 29, skins(30), b -> b.pare(0, 0, 0, 0, 0, 1));
             checks.answers("a thinner one at the end", 13, pared(20, 5, 5, 5, 5, 4), b -> b.pare(0, 2, 5, 2, 5, 3));
-            checks.answers("a thinner one at the beginning", 13, pared(20, 2, 2, 2, 2, 4), b -> b.pare(0, 2, 5, 2, 5, 3));
+            checks.answers("a thinner one at first", 13, pared(20, 2, 2, 2, 2, 4), b -> b.pare(0, 2, 5, 2, 5, 3));
             checks.answers("a thinner one beside it", 17, pared(20, 6, 6, 2, 2, 4), b -> b.pare(0, 2, 5, 2, 5, 3));
         });
     }

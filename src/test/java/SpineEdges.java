@@ -47,7 +47,7 @@ final class SpineEdges {
 
     private static void spines(Edges edges) {
         edges.section("Terms");
-        edges.test("The swelling of a book is 3 times the sum, over its gatherings, of the greatest number of stitches", checks -> {
+        edges.test("3 times the sum, over its gatherings, of the greatest number of stitches", checks -> {
             checks.answers("no stitch", 0, Benches.sewn(8, 6), b -> b.swelling(0));
             checks.answers("one stitch", 3, Benches.sewn(8, 6, THROUGH, ALONG), b -> b.swelling(0));
             checks.answers("one at each of two parts", 3, Benches.sewn(8, 6, THROUGH, ALONG, ALONG),
@@ -68,6 +68,12 @@ final class SpineEdges {
                     }
                 }, b -> b.swelling(0));
             }
+            checks.answers("1 at the last part, 3 at the first part of the next one", 3 * (1 + 3),
+                    Benches.sewn(2, 6, ALONG, ALONG, ALONG, ALONG, THROUGH, ALONG, THROUGH, UP, BACK, BACK, BACK, BACK,
+                            THROUGH, BACK, ALONG, BACK), b -> b.swelling(0));
+            checks.answers("3 at the last part, 1 at the first part of the next one", 3 * (3 + 1),
+                    Benches.sewn(2, 6, ALONG, ALONG, ALONG, ALONG, THROUGH, ALONG, BACK, ALONG, THROUGH, UP, BACK, BACK,
+                            BACK, BACK, THROUGH, BACK), b -> b.swelling(0));
             for (int p = 0; p < 5; p++) {
                 int part = p;
                 checks.answers("the greatest at part " + part, 6, bench -> {
@@ -96,13 +102,14 @@ final class SpineEdges {
             for (int gatherings : new int[] {1, 3, 8}) {
                 for (int leaves : new int[] {2, 3, 16}) {
                     int all = gatherings * leaves;
-                    checks.answers("all openings", all + 1, book(gatherings, leaves, 1, TIGHT), b -> b.opens(0, 100000));
-                    checks.answers("the last one", 0, book(gatherings, leaves, 1, TIGHT), b -> b.strain(0, all));
-                    checks.refuses("one more", ARGUMENT, book(gatherings, leaves, 1, TIGHT), b -> b.strain(0, all + 1));
+                    Checks.Setup one = book(gatherings, leaves, 1, TIGHT);
+                    checks.answers("all openings", all + 1, one, b -> b.opens(0, 100000));
+                    checks.answers("the last one", 0, one, b -> b.strain(0, all));
+                    checks.refuses("one more", ARGUMENT, one, b -> b.strain(0, all + 1));
                 }
             }
         });
-        edges.test("the lesser one of the leaves to the left and to the right, times their thickness, times 4, 1 or 2", checks -> {
+        edges.test("the lesser one of the leaves to the left and to the right, times their thickness", checks -> {
             int[] times = {4, 1, 2};
             for (int each = TIGHT; each <= FLEX; each++) {
                 int back = each;

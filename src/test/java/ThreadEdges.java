@@ -69,20 +69,19 @@ final class ThreadEdges {
             }
             checks.refuses("one more", STATE, manyBooks(4), b -> b.book(1, 2, 3, 1, true));
         });
-        edges.test("a book has 1 to 8 gatherings, each with so many leaves, 2 to 16, and stations, 3 to 6, numbered from 0, "
-                + "each of its leaves with a thickness, 1 to 9; it is old, or not", ThreadEdges::allBooks);
-        edges.test("The thread of a book is outside, at the gathering 0 and the station 0 at first, with a length of 0.",
-                checks -> {
-                    for (int book = 0; book < 4; book++) {
-                        for (int what = 0; what <= 5; what++) {
-                            int number = book;
-                            int asked = what;
-                            checks.answers("book " + book + ", " + what, 0, manyBooks(4), b -> b.ofThread(number, asked));
-                        }
-                    }
-                    checks.answers("outside: it can go up", 4, Benches.sewn(2, 3), b -> b.sew(0, UP));
-                    checks.refuses("nothing to take back", STATE, Benches.sewn(2, 3), b -> b.unsew(0, 1));
-                });
+        edges.test("a book has 1 to 8 gatherings, each with so many leaves, 2 to 16, and stations, 3 to 6, numbered "
+                + "from 0, each of its leaves with a thickness, 1 to 9; it is old, or not", ThreadEdges::allBooks);
+        edges.test("is outside, at the gathering 0 and the station 0 at first, with a length of 0.", checks -> {
+            for (int book = 0; book < 4; book++) {
+                for (int what = 0; what <= 5; what++) {
+                    int number = book;
+                    int asked = what;
+                    checks.answers("book " + book + ", " + what, 0, manyBooks(4), b -> b.ofThread(number, asked));
+                }
+            }
+            checks.answers("outside: it can go up", 4, Benches.sewn(2, 3), b -> b.sew(0, UP));
+            checks.refuses("nothing to take back", STATE, Benches.sewn(2, 3), b -> b.unsew(0, 1));
+        });
     }
 
     /** A book of each kind, with its last place, opening and strain, and what lies just beyond them. */
@@ -99,7 +98,7 @@ final class ThreadEdges {
             checks.due("last part, " + what, 0, bench.stitches(0, gatherings - 1, stations - 2));
             checks.due("last opening but one, " + what, 4 * thickness, bench.strain(0, gatherings * leaves - 1));
             checks.due("last opening, " + what, 0, bench.strain(0, gatherings * leaves));
-            due(checks, "beyond the last part, " + what, PLACE, bench, b -> b.stitches(0, gatherings - 1, stations - 1));
+            due(checks, "beyond the last part, " + what, PLACE, bench, b -> b.stitches(0, 0, stations - 1));
             due(checks, "beyond the last gathering, " + what, PLACE, bench, b -> b.stitches(0, gatherings, 0));
             due(checks, "beyond the last opening, " + what, ARGUMENT, bench, b -> b.strain(0, gatherings * leaves + 1));
             String repaired = Checks.answerOf(bench, b -> b.repair(0, 4));
@@ -114,13 +113,14 @@ final class ThreadEdges {
 
     private static void moves(Edges edges) {
         edges.section("Terms");
-        edges.test("THROUGH 0: through the hole of the station, from outside to inside, or from inside to outside", checks -> {
+        edges.test("through the hole of the station, from outside to inside, or from inside to outside", checks -> {
             thread(checks, "inside", Benches.sewn(2, 3, THROUGH), 0, 0, 0, 1, 1, 0);
             thread(checks, "outside again", Benches.sewn(2, 3, THROUGH, THROUGH), 0, 0, 0, 0, 2, 0);
             thread(checks, "at the last station", Benches.sewn(2, 3, ALONG, ALONG, THROUGH), 20, 0, 2, 1, 3, 0);
         });
         edges.test("ALONG 1: to the next station, BACK 2: to the one before, inside or outside", BothSides::along);
-        edges.test("UP 3: to the same station of the next gathering, DOWN 4: of the one before, outside alone", BothSides::up);
+        edges.test("UP 3: to the same station of the next gathering, DOWN 4: of the one before, outside alone",
+                BothSides::up);
         edges.test("lay a stitch at the part between both stations; parts are numbered by the lower one of both",
                 ThreadEdges::laid);
         edges.test("UP and DOWN link both gatherings.", checks -> {
@@ -133,8 +133,27 @@ final class ThreadEdges {
                         b.unsew(0, 1);
                     }), b -> b.ofThread(0, 5));
             checks.answers("after DOWN", 1, Benches.then(three, b -> b.sew(0, DOWN)), b -> b.ofThread(0, 5));
+            for (int at = 0; at <= 2; at++) {
+                int station = at;
+                checks.answers("links made again at station " + station, 1, b -> linkedAnew(b, station),
+                        b -> b.ofThread(0, 5));
+            }
         });
         edges.test("The latest moves can be taken back: all is as if they had not been.", ThreadEdges::takenBack);
+    }
+
+    /** Goes up at this station; each way up is made and taken back, with and without one down, and made again. */
+    private static void linkedAnew(MarbleBench bench, int station) {
+        int[] stitched = station == 0 ? of(THROUGH, ALONG, BACK, THROUGH) : of(THROUGH, BACK, ALONG, THROUGH);
+        bench.book(8, 2, 3, 1, false);
+        Benches.sew(bench, 0, joined(times(ALONG, station), stitched));
+        for (int gathering = 1; gathering < 8; gathering++) {
+            bench.sew(0, UP);
+            bench.unsew(0, 1);
+            Benches.sew(bench, 0, UP, DOWN);
+            bench.unsew(0, 2);
+            Benches.sew(bench, 0, joined(of(UP), stitched));
+        }
     }
 
     /** Moves along the stations and over the gatherings, up to the last one and not beyond. */
@@ -151,7 +170,7 @@ final class ThreadEdges {
                     Checks.Setup atEnd = Benches.sewn(1, stations, there);
                     Checks.Setup atStartAgain = Benches.sewn(1, stations, andBack);
                     thread(checks, "at the last station " + what, atEnd, 10 * last, 0, last, inside, last + inside);
-                    thread(checks, "at the first one " + what, atStartAgain, 20 * last, 0, 0, inside, 2 * last + inside);
+                    thread(checks, "at the first " + what, atStartAgain, 20 * last, 0, 0, inside, 2 * last + inside);
                     checks.refuses("before the first one " + what, STATE, atStart, b -> b.sew(0, BACK));
                     checks.refuses("before it again " + what, STATE, atStartAgain, b -> b.sew(0, BACK));
                     checks.refuses("beyond the last one " + what, STATE, atEnd, b -> b.sew(0, ALONG));
@@ -233,10 +252,10 @@ final class ThreadEdges {
         edges.test("as many of its parts as half of its stations, rounded down, or more have a stitch", checks -> {
             int[] half = {0, 0, 0, 1, 2, 2, 3};
             for (int stations = 3; stations <= 6; stations++) {
-                for (int parts = 0; parts < stations; parts++) {
-                    int[] moves = joined(of(THROUGH), times(ALONG, parts));
-                    checks.answers(parts + " parts of " + stations + " stations", parts < half[stations] ? 0 : 1,
-                            Benches.sewn(1, stations, moves), b -> Checks.bit(b.isHeld(0, 0)));
+                for (int parts = 0; parts < 1 << stations - 1; parts++) {
+                    String what = "parts " + Integer.toBinaryString(parts) + " of " + stations + " stations";
+                    checks.answers(what, Integer.bitCount(parts) < half[stations] ? 0 : 1,
+                            Benches.sewn(1, stations, stitchesAt(parts, stations)), b -> Checks.bit(b.isHeld(0, 0)));
                 }
             }
             int[] onePart = of(THROUGH, ALONG, BACK, ALONG, BACK, ALONG, BACK);
@@ -245,8 +264,30 @@ final class ThreadEdges {
                         Benches.sewn(1, stations, onePart), b -> Checks.bit(b.isHeld(0, 0)));
             }
         });
-        edges.test("A book is sewn, if each gathering is held, each is linked with the next one, and the thread is outside.",
+        edges.test("A gathering is held, if as many of its parts", checks -> {
+            int[] upToTheNext = joined(times(ALONG, 3), of(THROUGH, ALONG, ALONG, THROUGH, UP), times(BACK, 3),
+                    of(THROUGH, BACK, BACK));
+            Checks.Setup two = Benches.sewn(2, 6, upToTheNext);
+            checks.answers("the parts 3 and 4, of 6 stations", 0, two, b -> Checks.bit(b.isHeld(0, 0)));
+            checks.answers("the parts 0 and 1 of the next one", 0, two, b -> Checks.bit(b.isHeld(0, 1)));
+            Checks.Setup three = Benches.then(two, b -> Benches.sew(b, 0, THROUGH, ALONG, ALONG, THROUGH, ALONG));
+            checks.answers("another part of the next one", 1, three, b -> Checks.bit(b.isHeld(0, 1)));
+            checks.answers("still the parts 3 and 4 alone", 0, three, b -> Checks.bit(b.isHeld(0, 0)));
+        });
+        edges.test("if each gathering is held, each is linked with the next one, and the thread is outside.",
                 ThreadEdges::sewn);
+    }
+
+    /** Leads the thread along all stations, inside at these parts (one bit for each) and outside at the others. */
+    private static int[] stitchesAt(int parts, int stations) {
+        int[] moves = {};
+        boolean isInside = false;
+        for (int part = 0; part < stations - 1; part++) {
+            boolean isStitched = (parts >> part & 1) == 1;
+            moves = joined(moves, isStitched == isInside ? of(ALONG) : of(THROUGH, ALONG));
+            isInside = isStitched;
+        }
+        return moves;
     }
 
     private static void sewn(Checks checks) {
@@ -267,8 +308,8 @@ final class ThreadEdges {
             checks.answers(what + ", the last one not held", 0, Benches.sewn(gatherings, 3, lastNotHeld),
                     b -> b.ofThread(0, 5));
             for (int bare = 0; bare < gatherings; bare++) {
-                checks.answers(what + ", " + bare + " not held", 0, Benches.sewn(gatherings, 3, bareAt(gatherings, bare)),
-                        b -> b.ofThread(0, 5));
+                Checks.Setup but = Benches.sewn(gatherings, 3, bareAt(gatherings, bare));
+                checks.answers(what + ", " + bare + " not held", 0, but, b -> b.ofThread(0, 5));
             }
         }
     }
@@ -404,8 +445,8 @@ final class ThreadEdges {
             checks.refuses("move above, 200 moves", ARGUMENT, Benches.FULL, b -> b.sew(0, 5));
             checks.refuses("move above, inside", ARGUMENT, Benches.USED, b -> b.sew(0, 5));
         });
-        edges.test("Throws `IllegalStateException` if there is no such station or gathering, it is UP or DOWN inside, or "
-                + "there are 200 moves", ThreadEdges::sewRefused);
+        edges.test("if there is no such station or gathering, it is UP or DOWN inside, or there are 200 moves",
+                ThreadEdges::sewRefused);
     }
 
     /** 198 moves: the ones ahead of the last one that leads to 200. */
@@ -499,14 +540,19 @@ final class ThreadEdges {
             checks.answers("the last one", 10, Benches.then(manyBooks(4), b -> b.sew(3, ALONG)), b -> b.ofThread(3, 0));
             Edges.noBook(checks, (b, v) -> b.ofThread(v, 0));
         });
-        edges.test("- `what`: 0 its length, 1 its gathering, 2 its station, 3 whether it is inside (1 or 0), 4 how many moves "
-                + "there were that were not taken back, 5 whether the book is sewn (1 or 0)", checks -> {
-                    thread(checks, "of 200 moves", Benches.FULL, 994, 1, 1, 0, 200, 0);
-                    thread(checks, "sewn", Benches.sewn(1, 3, THROUGH, ALONG, THROUGH), 10, 0, 1, 0, 3, 1);
-                    thread(checks, "not sewn, inside", Benches.sewn(1, 3, THROUGH, ALONG), 10, 0, 1, 1, 2, 0);
-                    thread(checks, "five taken back", Benches.then(Benches.FULL, b -> b.unsew(0, 5)), 974, 1, 1, 1, 195);
-                    Edges.outsideOfUsed(checks, ARGUMENT, 0, 5, (b, v) -> b.ofThread(0, v));
-                });
+        edges.test("4 how many moves there were that were not taken back, 5 whether the book is sewn", checks -> {
+            thread(checks, "of 200 moves", Benches.FULL, 994, 1, 1, 0, 200, 0);
+            thread(checks, "sewn", Benches.sewn(1, 3, THROUGH, ALONG, THROUGH), 10, 0, 1, 0, 3, 1);
+            thread(checks, "not sewn, inside", Benches.sewn(1, 3, THROUGH, ALONG), 10, 0, 1, 1, 2, 0);
+            Checks.Setup fiveLess = Benches.then(Benches.FULL, b -> b.unsew(0, 5));
+            thread(checks, "five taken back", fiveLess, 974, 1, 1, 1, 195, 0);
+        });
+        edges.test("- `what`: 0 its length, 1 its gathering, 2 its station, 3 whether it is inside", checks -> {
+            checks.answers("0", 994, Benches.FULL, b -> b.ofThread(0, 0));
+            checks.answers("5", 1, Benches.sewn(1, 3, THROUGH, ALONG, THROUGH), b -> b.ofThread(0, 5));
+            Edges.outsideOfUsed(checks, ARGUMENT, 0, 5, (b, v) -> b.ofThread(0, v));
+            Edges.outsideOfUsed(checks, ARGUMENT, 0, 5, (b, v) -> b.ofThread(1, v));
+        });
         edges.test("Returns the number.", checks -> {
             Checks.Setup corner = Benches.sewn(8, 6, joined(times(UP, 7), times(ALONG, 5), of(THROUGH)));
             thread(checks, "at the last gathering and station", corner, 78, 7, 5, 1, 13, 0);
@@ -597,8 +643,8 @@ final class ThreadEdges {
         edges.test("Returns whether it is.", checks -> {
             checks.answers("it is not", 0, Benches.sewn(1, 3, THROUGH), b -> Checks.bit(b.isHeld(0, 0)));
             checks.answers("it is", 1, Benches.sewn(1, 3, THROUGH, ALONG), b -> Checks.bit(b.isHeld(0, 0)));
-            checks.answers("not after the stitch is taken back", 0,
-                    Benches.then(Benches.sewn(1, 3, THROUGH, ALONG), b -> b.unsew(0, 1)), b -> Checks.bit(b.isHeld(0, 0)));
+            Checks.Setup takenBack = Benches.then(Benches.sewn(1, 3, THROUGH, ALONG), b -> b.unsew(0, 1));
+            checks.answers("not after the stitch is taken back", 0, takenBack, b -> Checks.bit(b.isHeld(0, 0)));
         });
         edges.test("Throws `IndexOutOfBoundsException`", checks -> {
             Edges.always(checks, "both", PLACE, b -> Checks.bit(b.isHeld(-1, -1)));
