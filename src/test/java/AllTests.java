@@ -1,14 +1,19 @@
-import java.io.IOException;
+import java.nio.file.Files;
 import java.nio.file.Path;
 
-/** Runs all tests of the project; the argument is the document's file. Ends with exit code 1 if one failed. */
+/**
+ * Runs all tests of the project; the arguments are the files of the document and of the class.
+ * Ends with exit code 1 if one failed.
+ */
 public final class AllTests {
     private AllTests() {
     }
 
     public static void main(String[] args) throws Exception {
         Checks checks = new Checks();
-        FaceTest.run(checks);
+        Document document = new Document(Path.of(args[0]));
+        String source = Files.readString(Path.of(args[1]));
+        FaceTest.run(checks, document, source);
         BathTest.run(checks);
         SheetTest.run(checks);
         SewingTest.run(checks);
@@ -16,7 +21,7 @@ public final class AllTests {
         SkinTest.run(checks);
         RepairTest.run(checks);
         YearTest.run(checks);
-        edges(checks, Path.of(args[0]));
+        edges(checks, document, source);
         ModelTest.run(checks);
         if (!checks.report()) {
             System.exit(1);
@@ -24,10 +29,9 @@ public final class AllTests {
     }
 
     /** Every sentence of the document is named by a test, or by a reason for having none. */
-    private static void edges(Checks checks, Path file) throws IOException {
-        Document document = new Document(file);
+    private static void edges(Checks checks, Document document, String source) {
         Edges edges = new Edges(checks, document);
-        RuleEdges.run(edges);
+        RuleEdges.run(edges, source);
         BathEdges.run(edges);
         SheetEdges.run(edges);
         ThreadEdges.run(edges);

@@ -8,10 +8,16 @@ import java.util.List;
 import java.util.Map;
 import java.util.Set;
 
-/** The document's sentences by their section ("What it is", "Terms", "Promise 1", ..), and which of them tests name. */
+/**
+ * The document's sentences by their section ("What it is", "Terms", "Promise 1", ..), and which of them tests name;
+ * and the lines of its public face.
+ */
 final class Document {
+    private static final String FACE = "The public face";
+
     private final Map<String, List<String>> sentences = new LinkedHashMap<>();
     private final Set<String> named = new LinkedHashSet<>();
+    private final List<String> face = new ArrayList<>();
 
     Document(Path file) throws IOException {
         String section = "";
@@ -19,12 +25,25 @@ final class Document {
             if (line.startsWith("## ")) {
                 section = line.substring(3).replaceFirst("^(Promise \\d+): .*", "$1");
                 sentences.put(section, new ArrayList<>());
+            } else if (section.equals(FACE)) {
+                face.add(line.strip());
             } else if (section.startsWith("Promise") && !line.isEmpty()) {
                 sentences.get(section).add(line);
             } else if (line.endsWith(".")) {
                 sentences.get(section).addAll(List.of(line.split("(?<=\\.) ")));
             }
         }
+    }
+
+    /** All that the face declares: the class, its constants, its constructor and its methods. */
+    List<String> declared() {
+        List<String> lines = new ArrayList<>();
+        for (String line : face) {
+            if (line.startsWith("public ")) {
+                lines.add(line);
+            }
+        }
+        return lines;
     }
 
     /** Whether these words stand in exactly one sentence of the section, which is then a named one. */

@@ -17,11 +17,23 @@ final class FaceTest {
     private FaceTest() {
     }
 
-    static void run(Checks checks) throws IllegalAccessException {
+    static void run(Checks checks, Document document, String source) throws IllegalAccessException {
+        declared(checks, document, source);
         constants(checks);
         methods(checks);
         nestedClasses(checks);
         newObject(checks);
+    }
+
+    /** Each line of the document's face stands in the class, with the names of its arguments and its throws clause. */
+    private static void declared(Checks checks, Document document, String source) {
+        String spaced = source.replaceAll("\\s+", " ");
+        List<String> lines = document.declared();
+        checks.due("lines of the face: the class, 3 of constants, the constructor and 29 methods", 34, lines.size());
+        for (String line : lines) {
+            String due = line.replaceFirst("\\)([^)]*);$", ")$1 {");
+            checks.isTrue("that the class declares " + due, spaced.contains(" " + due));
+        }
     }
 
     private static void constants(Checks checks) throws IllegalAccessException {

@@ -1,5 +1,7 @@
 import java.util.ArrayList;
 import java.util.List;
+import java.util.regex.Matcher;
+import java.util.regex.Pattern;
 
 /** What the document tells of all calls: what is there at first, questions, exceptions, constants, 512 calls. */
 final class RuleEdges {
@@ -118,12 +120,13 @@ final class RuleEdges {
         several("speak, weight and 20 that speak", ARGUMENT, b -> b.speak(0, 1500, 1600, 10));
     }
 
-    static void run(Edges edges) {
+    static void run(Edges edges, String source) {
         newBench(edges);
         questions(edges);
         numbers(edges);
         exceptions(edges);
         constants(edges);
+        headings(edges, source);
         calls(edges);
     }
 
@@ -255,10 +258,31 @@ final class RuleEdges {
             checks.due("HOLLOW", 1, MarbleBench.HOLLOW);
             checks.due("FLEX", 2, MarbleBench.FLEX);
         });
-        for (String ahead : List.of("bath, prints", "sheets", "books, threads", "spines, openings", "skins",
-                "repairs, years")) {
-            edges.noTest("the interface says: ---- " + ahead + ".", "a line of comment, which the class bears");
-        }
+    }
+
+    private static void headings(Edges edges, String source) {
+        edges.section("Terms");
+        heading(edges, source, "bath, prints", "drop comb lift clean cellAt printAt count");
+        heading(edges, source, "sheets", "pageAt placeOf");
+        heading(edges, source, "books, threads", "book sew unsew ofThread stitches isHeld");
+        heading(edges, source, "spines, openings", "back swelling strain worst opens");
+        heading(edges, source, "skins", "skin pare thickAt tooThick");
+        heading(edges, source, "repairs, years", "repair undo speak year yearAnew");
+    }
+
+    /** The class bears the heading as a comment, and these calls alone, in this order, stand behind it. */
+    private static void heading(Edges edges, String source, String ahead, String calls) {
+        edges.test("the interface says: ---- " + ahead + ".", checks -> {
+            String[] parts = source.split("// ---- " + ahead + "\\R");
+            checks.due("places with this heading", 2, parts.length);
+            String part = parts[parts.length - 1].split("// ---- ")[0];
+            Matcher declared = Pattern.compile("public \\w+ (\\w+)\\(").matcher(part);
+            StringBuilder found = new StringBuilder();
+            while (declared.find()) {
+                found.append(found.length() == 0 ? "" : " ").append(declared.group(1));
+            }
+            checks.isTrue("that " + calls + " stand behind it, not " + found, found.toString().equals(calls));
+        });
     }
 
     private static void calls(Edges edges) {
